@@ -1,0 +1,254 @@
+/** Promise 10: clean. */
+public final class CleanTest {
+    private static final int MIN = Integer.MIN_VALUE;
+    private static final int MAX = Integer.MAX_VALUE;
+
+    public static void main(String[] args) {
+        wrongLogs();
+        theActiveOneStays();
+        bytesOfACleanedSegment();
+        ageOfDeletions();
+        laterDeletions();
+        nothingIsLeft();
+        generations();
+        producersStay();
+        endsWithoutRoom();
+        endsWithTooManyBytes();
+        justEnoughBytes();
+        cutAtEveryWrite();
+        Check.finish("CleanTest");
+    }
+
+    private static void wrongLogs() {
+        LogBroker x = new LogBroker();
+        for (int log : new int[] {-1, 0, 1, 4, MIN, MAX}) {
+            Check.due("clean of " + log, Check.IAE, () -> x.clean(log, 0));
+        }
+        Check.due("clean of an empty log", 0, () -> x.clean(2, 0));
+        Check.due("clean of the groups' log", 0, () -> x.clean(3, 0));
+    }
+
+    private static void theActiveOneStays() {
+        LogBroker x = new LogBroker();
+        Check.send(x, 2, 0, 1, 1, 0, 1, 2, 0, 1, 3);
+        Check.due("clean", 0, () -> x.clean(2, MAX));
+        Check.due("writes", 3, () -> x.look(1));
+        Check.sendBig(x, 2);
+        Check.sendBig(x, 2);
+        Check.due("clean, two segments", 2 + 4, () -> x.clean(2, MAX));
+        Check.due("again", 0, () -> x.clean(2, MAX));
+        Check.same("log", "0 11 2 85 2 7", Check.logOf(x, 2));
+    }
+
+    /** Bytes that a cleaning leaves alone are those of blocks that get none. */
+    private static void bytesOfACleanedSegment() {
+        LogBroker x = new LogBroker();
+        Check.sendBig(x, 0);
+        Check.sendBig(x, 0);
+        Check.sendBig(x, 1);
+        Check.sendBig(x, 0);
+        Check.due("slot 0 is let go", 1, () -> x.retain(0, 9999));
+        x.add(70, 1, 5);
+        x.add(80, 2, 6);
+        x.erase(95, 3);
+        x.add(75, 4, 7);
+        x.produce(2, 6, 11);
+        Check.due("it is taken", 3, () -> x.octet(0, 2));
+        Check.sendBig(x, 2);
+        Check.sendBig(x, 2);
+        Check.send(x, 2, 0, 1, 1, 0, 4, 4);
+        int writes = x.look(1);
+        Check.due("clean", 2 + 4, () -> x.clean(2, 195));
+        Check.due("writes", writes + 3, () -> x.look(1));
+        Check.dueBytes("old slot", x, 0, 0, 0, 92, 0, 0);
+        Check.dueBytes("new slot", x, 16, 0, 0, 24, 3, 1, 0, 0, 0, 0,
+                15, 1, 0xA0, 1, 6, 11, 2, 0, 0, 4, 0, 12, 1, 30, 6, 1, 0, 0, 0, 0, 0, 0, 0);
+        Check.due("records that are left", 8, () -> x.fetch(2, 0, 8));
+        Check.same("offsets", "1 2 8 9 10 11 12 13", Check.offsets(x));
+    }
+
+    private static void ageOfDeletions() {
+        int[][] due = {{0, 100, 0}, {0, 101, 1}, {-1, 99, 0}, {-1, 100, 1}, {MIN, MIN, 0}, {MIN, MIN + 100, 0},
+            {MIN, MIN + 101, 1}, {MAX, MAX, 0}, {MAX, MIN, 0}, {MIN, MAX, 1}, {MAX - 100, MAX, 0}, {MAX - 101, MAX, 1}};
+        for (int[] d : due) {
+            LogBroker x = new LogBroker();
+            x.erase(d[0], 5);
+            x.produce(2, -1, 0);
+            Check.send(x, 2, d[0], 6, 0);
+            Check.sendBig(x, 2);
+            Check.sendBig(x, 2);
+            int gone = 4 * (x.log(2, 2) - 1);
+            Check.due("deletion of " + d[0] + " at " + d[1], gone + d[2], () -> x.clean(2, d[1]));
+        }
+    }
+
+    private static void laterDeletions() {
+        LogBroker x = new LogBroker();
+        Check.send(x, 2, 500, 1, 1, 500, 2, 2, 500, 3, 3);
+        x.erase(0, 1);
+        x.erase(500, 2);
+        x.produce(2, -1, 0);
+        Check.sendBig(x, 2);
+        Check.send(x, 2, 500, 9, 9);
+        Check.sendBig(x, 2);
+        Check.due("an old deletion and what it deletes go at once", 4 + 2 + 1, () -> x.clean(2, 400));
+        x.fetch(2, 0, 8);
+        Check.same("left", "2 4 9 10 11 12 13", Check.offsets(x));
+        Check.due("it is a deletion", 1, () -> x.fetched(1, 4));
+    }
+
+    private static void nothingIsLeft() {
+        LogBroker x = new LogBroker();
+        for (int i = 0; i < 32; i++) {
+            Check.sendBig(x, 2);
+        }
+        Check.due("no free slot", 0, () -> x.look(2));
+        int writes = x.look(1);
+        Check.due("clean needs none", 15 * 8, () -> x.clean(2, 0));
+        Check.due("a write for each", writes + 15, () -> x.look(1));
+        Check.due("free slots", 15, () -> x.look(2));
+        Check.same("log", "0 128 1 124 2 120", Check.logOf(x, 2));
+        Check.due("START stays", 4, () -> x.fetch(2, 0, 4));
+        x.recover();
+        Check.same("read again", "0 128 1 124 2 120", Check.logOf(x, 2));
+    }
+
+    private static void generations() {
+        LogBroker x = new LogBroker();
+        Check.send(x, 2, 0, 1, 0, 0, 2, 0, 0, 3, 0, 0, 4, 0);
+        Check.send(x, 2, 0, 5, 0);
+        Check.sendBig(x, 2);
+        Check.sendBig(x, 2);
+        for (int i = 1; i <= 4; i++) {
+            Check.send(x, 2, 0, i, 0);
+            int gone = i == 1 ? 5 : 1;
+            Check.due("clean " + i, gone, () -> x.clean(2, 0));
+            int slot = i % 2 == 1 ? 2 : 0;
+            int generation = i;
+            Check.due("generation " + i, generation, () -> x.octet(4 * slot, 3));
+            Check.due("owner " + i, 3, () -> x.octet(4 * slot, 2));
+            Check.due("free slots", 14, () -> x.look(2));
+        }
+        x.fetch(2, 0, 1);
+        Check.same("left in it", "4", Check.offsets(x));
+        Check.dueBytes("the first that is left is the first", x, 0, 8, 10, 4, 0, 255, 0, 1, 0, 0, 10, 0, 0);
+    }
+
+    private static void producersStay() {
+        LogBroker x = new LogBroker();
+        x.add(0, 1, 1);
+        x.add(0, 2, 2);
+        x.produce(2, 1, 40);
+        x.add(0, 1, 1);
+        x.produce(2, 2, 50);
+        Check.sendBig(x, 2);
+        Check.send(x, 2, 0, 1, 1);
+        Check.sendBig(x, 2);
+        Check.due("clean", 2 + 4, () -> x.clean(2, 0));
+        Check.same("known of 1", "40 2 0", Check.knownOf(x, 2, 1));
+        Check.same("known of 2", "50 1 2", Check.knownOf(x, 2, 2));
+        x.recover();
+        Check.same("of 1 as the batch says", "40 1 1", Check.knownOf(x, 2, 1));
+        Check.same("of 2 nothing is there", "-1 -1 -1", Check.knownOf(x, 2, 2));
+        x.add(0, 7, 7);
+        Check.due("next of 1", 12, () -> x.produce(2, 1, 41));
+        x.add(0, 7, 7);
+        Check.due("2 may begin anew", 13, () -> x.produce(2, 2, 0));
+    }
+
+    /** Segment 0 can be dropped, 1 must move, 2 must move: the slot of 0 is room for 1 and so on. */
+    private static void endsWithoutRoom() {
+        LogBroker x = new LogBroker();
+        for (int i = 0; i < 26; i++) {
+            Check.sendBig(x, 0);
+        }
+        Check.send(x, 2, 0, 1, 1, 0, 2, 2);
+        Check.sendBig(x, 2);
+        Check.sendBig(x, 2);
+        Check.sendBig(x, 2);
+        Check.sendBig(x, 2);
+        Check.due("no free slot", 0, () -> x.look(2));
+        String log = Check.logOf(x, 2);
+        Check.due("clean ends at once", 0, () -> x.clean(2, 0));
+        Check.same("log as before", log, Check.logOf(x, 2));
+        Check.due("a slot is let go", 11, () -> x.retain(0, -100000));
+        Check.due("then there is room", 4 + 8, () -> x.clean(2, 0));
+
+        LogBroker y = new LogBroker();
+        for (int i = 0; i < 26; i++) {
+            Check.sendBig(y, 0);
+        }
+        Check.sendBig(y, 2);
+        Check.sendBig(y, 2);
+        Check.send(y, 2, 0, 1, 1, 0, 2, 2);
+        Check.sendBig(y, 2);
+        Check.sendBig(y, 2);
+        Check.due("no free slot", 0, () -> y.look(2));
+        Check.due("the first makes room for the second", 8 + 4, () -> y.clean(2, 0));
+        Check.due("its slot", 3, () -> y.octet(52, 2));
+        Check.due("its generation", 1, () -> y.octet(52, 3));
+        Check.due("the second's old slot", 0, () -> y.octet(56, 2));
+    }
+
+    private static void sendWide(LogBroker x, int key) {
+        Check.send(x, 2, 0, 1, 0, 1 << 30, key, 0, 0, key + 1, 0, 0, key + 2, 0);
+    }
+
+    /** Each of these batches has 30 bytes, and 33 without its first record. */
+    private static void endsWithTooManyBytes() {
+        LogBroker x = new LogBroker();
+        for (int i = 0; i < 4; i++) {
+            sendWide(x, 10 + 3 * i);
+        }
+        Check.due("a full slot", 128, () -> x.log(2, 3));
+        Check.send(x, 2, 0, 50, 0);
+        Check.sendBig(x, 2);
+        Check.send(x, 2, 0, 1, 0, 0, 50, 0);
+        Check.sendBig(x, 2);
+        int writes = x.look(1);
+        Check.due("clean ends there, the next one too", 0, () -> x.clean(2, 0));
+        Check.due("writes", writes, () -> x.look(1));
+        Check.same("log", "0 27 3 287 5 23", Check.logOf(x, 2));
+    }
+
+    private static void justEnoughBytes() {
+        LogBroker x = new LogBroker();
+        for (int i = 0; i < 3; i++) {
+            sendWide(x, 10 + 3 * i);
+        }
+        Check.send(x, 2, 0, 20, 0, 0, 21, 0, 0, 22, 0);
+        Check.due("119 bytes", 119, () -> x.log(2, 3));
+        Check.send(x, 2, 0, 1, 0);
+        Check.due("another segment", 2, () -> x.log(2, 2));
+        int writes = x.look(1);
+        Check.due("clean to 128 bytes", 3, () -> x.clean(2, 0));
+        Check.due("writes", writes + 6, () -> x.look(1));
+        Check.due("marks", 128 + 19, () -> x.log(2, 3));
+        Check.due("entries", 2 + 1, () -> x.log(2, 4));
+        x.fetch(2, 0, 8);
+        Check.same("offsets", "1 2 3 5 6 7 9 10", Check.offsets(x));
+        Check.due("time", 1 << 30, () -> x.fetched(3, 1));
+        Check.due("time behind it", 0, () -> x.fetched(4, 1));
+    }
+
+    private static void cutAtEveryWrite() {
+        for (int k = 0; k < 5; k++) {
+            LogBroker x = new LogBroker();
+            Check.send(x, 2, 0, 1, 0, 0, 2, 0, 0, 3, 0, 0, 4, 0);
+            Check.send(x, 2, 0, 5, 0, 0, 6, 0);
+            Check.sendBig(x, 2);
+            Check.send(x, 2, 0, 1, 1);
+            Check.sendBig(x, 2);
+            Check.same("log", "0 15 2 185 4 11", Check.logOf(x, 2));
+            x.cut(k);
+            Check.due("clean, cut after " + k, k < 4 ? Check.ISE : "5", () -> x.clean(2, 0));
+            Check.due("free slots", k == 3 ? 13 : 14, () -> x.look(2));
+            Check.due("new owner", k > 2 ? 3 : 0, () -> x.octet(8, 2));
+            Check.due("old owner", k > 3 ? 0 : 3, () -> x.octet(0, 2));
+            Check.due("new mark", k > 0 ? 56 : 0, () -> x.octet(8, 1));
+            Check.due("recover", k == 3 ? 1 : 0, () -> x.recover());
+            Check.same("log then", k < 3 ? "0 15 2 185 4 11" : "0 15 2 122 2 11", Check.logOf(x, 2));
+            Check.due("free slots then", 14, () -> x.look(2));
+        }
+    }
+}
