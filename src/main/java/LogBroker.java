@@ -77,12 +77,15 @@ public final class LogBroker {
                 || !anonymous && sequence < 0 || batch.records.count == 0) {
             throw new IllegalArgumentException("no such log, producer or sequence, or an empty batch");
         }
-        if (anonymous) {
-            batch.sign(NO_PRODUCER, 0);
-            return appendOrRefuse(logs[log], batch);
+        batch.sign(anonymous ? NO_PRODUCER : producer, anonymous ? 0 : sequence);
+        int again = logs[log].offsetOfSame(batch);
+        if (again >= 0) {
+            return again;
         }
-        batch.sign(producer, sequence);
-        return produceKnown(logs[log], batch);
+        requireOrder(logs[log], batch);
+        int offset = appendOrRefuse(logs[log], batch);
+        logs[log].remember(batch, offset);
+        return offset;
     }
 
     public int fetch(int log, int offset, int n)
@@ -317,6 +320,13 @@ public final class LogBroker {
         }
     }
 
+    private void requireOrder(Log log, Batch batch) {
+        int producer = batch.producer;
+        if (log.knows(producer) && log.sequences[producer] + log.counts[producer] != batch.sequence) {
+            throw new UnsupportedOperationException("out of order");
+        }
+    }
+
     private void forget() {
         making.records.count = 0;
         found.count = 0;
@@ -334,22 +344,6 @@ public final class LogBroker {
         making.records.count = 0;
         sent = taken;
         return taken;
-    }
-
-    private int produceKnown(Log log, Batch batch) {
-        int producer = batch.producer;
-        int count = batch.records.count;
-        if (log.knows(producer)) {
-            if (log.sequences[producer] == batch.sequence && log.counts[producer] == count) {
-                return log.offsets[producer];
-            }
-            if (log.sequences[producer] + log.counts[producer] != batch.sequence) {
-                throw new UnsupportedOperationException("out of order");
-            }
-        }
-        int offset = appendOrRefuse(log, batch);
-        log.remember(batch, offset);
-        return offset;
     }
 
     private int appendOrRefuse(Log log, Batch batch) {
@@ -592,9 +586,7 @@ public final class LogBroker {
 
     private void readBatch(Log log, Batch batch) {
         Records records = batch.records;
-        if (batch.producer < PRODUCERS) {
-            log.remember(batch, records.offsets[0]);
-        }
+        log.remember(batch, records.offsets[0]);
         for (int k = 0; k < records.count; k++) {
             log.next = records.offsets[k] + 1;
             int key = records.keys[k];
@@ -945,6 +937,15 @@ public final class LogBroker {
             return producer >= 0 && producer < PRODUCERS && counts[producer] > 0;
         }
 
+        /** Where the batch stands if it is the latest one of its producer again, else -1. */
+        int offsetOfSame(Batch batch) {
+            int producer = batch.producer;
+            boolean same = knows(producer) && sequences[producer] == batch.sequence
+                    && counts[producer] == batch.records.count;
+            return same ? offsets[producer] : -1;
+        }
+
+        /** A batch without producer has no place here, and is passed over. */
         void remember(Batch batch, int offset) {
             int producer = batch.producer;
             if (producer >= 0 && producer < PRODUCERS) {

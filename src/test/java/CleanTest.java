@@ -15,7 +15,20 @@ public final class CleanTest {
         endsWithoutRoom();
         endsWithTooManyBytes();
         justEnoughBytes();
+        oneByteTooMany();
         cutAtEveryWrite();
+        aLaterOneAnywhere();
+        deletionsInTheActiveOneStay();
+        anEmptyActiveOne();
+        whatIsNotChangedStays();
+        behindMarkTheBlockBecomesZero();
+        theLeastFreeSlotIsTaken();
+        noBatchWithoutRecords();
+        baseNextAndStartStay();
+        theIndexIsMadeAnew();
+        whatWasDoneStays();
+        cutWhereNothingIsLeft();
+        whatWasCommittedStays();
         Check.finish("CleanTest");
     }
 
@@ -250,5 +263,251 @@ public final class CleanTest {
             Check.same("log then", k < 3 ? "0 15 2 185 4 11" : "0 15 2 122 2 11", Check.logOf(x, 2));
             Check.due("free slots then", 14, () -> x.look(2));
         }
+    }
+
+    /** "(At a segment that would have more than 128 bytes then the cleaning ends as without room.)": 129. */
+    private static void oneByteTooMany() {
+        LogBroker x = new LogBroker();
+        for (int i = 0; i < 3; i++) {
+            sendWide(x, 10 + 3 * i);
+        }
+        Check.send(x, 2, 0, 20, 0, 0, 21, 0, 0, 22, 64);
+        Check.due("120 bytes", 120, () -> x.log(2, 3));
+        Check.send(x, 2, 0, 1, 0);
+        int writes = x.look(1);
+        Check.due("clean to 129 bytes", 0, () -> x.clean(2, 0));
+        Check.due("writes", writes, () -> x.look(1));
+        Check.same("log", "0 16 2 139 3 15", Check.logOf(x, 2));
+        Check.due("all free slots stay", 14, () -> x.look(2));
+    }
+
+    /** "a record is left out if a later one of the log has its key" */
+    private static void aLaterOneAnywhere() {
+        LogBroker x = new LogBroker();
+        Check.send(x, 2, 0, 1, 0, 0, 1, 0, 0, 2, 0, 0, 3, 0);
+        Check.send(x, 2, 0, 2, 0, 0, 4, 0, 0, 5, 0);
+        Check.sendBig(x, 2);
+        Check.sendBig(x, 2);
+        Check.send(x, 2, 0, 3, 0);
+        Check.sendBig(x, 2);
+        Check.send(x, 2, 0, 4, 0);
+        Check.same("three segments", "0 21 3 267 6 16", Check.logOf(x, 2));
+        // of the first: 0 in its batch, 2 in its segment, 3 and the big one behind it, 5 in the ACTIVE one
+        Check.due("clean", 4 + 4 + 4, () -> x.clean(2, 0));
+        x.fetch(2, 0, 8);
+        Check.same("left", "1 4 6 15 16 17 18 19", Check.offsets(x));
+    }
+
+    /** "its segments but the ACTIVE one": neither its deletions nor what is there twice. */
+    private static void deletionsInTheActiveOneStay() {
+        LogBroker x = new LogBroker();
+        x.erase(0, 1);
+        x.erase(0, 1);
+        x.produce(2, -1, 0);
+        int writes = x.look(1);
+        Check.due("clean", 0, () -> x.clean(2, MAX));
+        Check.due("writes", writes, () -> x.look(1));
+        Check.due("both are there", 2, () -> x.fetch(2, 0, 8));
+    }
+
+    /** A header without batches behind it is the ACTIVE one: all others are cleaned. */
+    private static void anEmptyActiveOne() {
+        LogBroker x = new LogBroker();
+        Check.sendBig(x, 2);
+        Check.sendBig(x, 2);
+        x.cut(1);
+        Check.due("cut behind the header", Check.ISE, () -> Check.sendBig(x, 2));
+        x.recover();
+        Check.same("log", "0 8 2 132 2 8", Check.logOf(x, 2));
+        Check.due("clean", 7, () -> x.clean(2, 0));
+        Check.same("log then", "0 8 2 35 1 8", Check.logOf(x, 2));
+        Check.due("fetch", 1, () -> x.fetch(2, 0, 8));
+        Check.same("the last one is left", "7", Check.offsets(x));
+    }
+
+    /** "If that changes a segment": one that is not changed keeps its slot, GENERATION and bytes. */
+    private static void whatIsNotChangedStays() {
+        LogBroker x = new LogBroker();
+        Check.send(x, 2, 0, 1, MIN, 0, 2, MIN, 0, 3, MIN, 0, 4, MIN);
+        Check.send(x, 2, 0, 5, MIN, 0, 6, MIN, 0, 7, MIN, 0, 8, MIN);
+        Check.send(x, 2, 0, 9, MIN, 0, 10, MIN, 0, 11, MIN);
+        Check.due("one segment", 1, () -> x.log(2, 2));
+        Check.sendBig(x, 2);
+        Check.sendBig(x, 2);
+        Check.sendBig(x, 2);
+        Check.due("three segments", 3, () -> x.log(2, 2));
+        int writes = x.look(1);
+        Check.due("the second one goes", 8, () -> x.clean(2, 0));
+        Check.due("by one write", writes + 1, () -> x.look(1));
+        Check.dueBytes("the first", x, 0, 0, 0, 125, 3, 0, 0, 0, 0, 0);
+        Check.due("the second's OWNER", 0, () -> x.octet(4, 2));
+        Check.due("GENERATION of the third", 0, () -> x.octet(8, 3));
+    }
+
+    /** Log 2 in slots 1 and 2; slot 0 is free, with the bytes of two big batches of log 0. */
+    private static LogBroker withOldBytes() {
+        LogBroker x = new LogBroker();
+        Check.sendBig(x, 0);
+        Check.sendBig(x, 0);
+        Check.send(x, 2, 0, 1, 0, 0, 2, 0, 0, 3, 0);
+        Check.send(x, 2, 0, 4, 0, 0, 5, 0);
+        Check.sendBig(x, 2);
+        Check.sendBig(x, 2);
+        Check.send(x, 2, 0, 1, 1);
+        Check.sendBig(x, 0);
+        Check.due("slot 0 is let go", 1, () -> x.retain(0, 5000));
+        Check.same("log 2", "0 14 2 180 3 9", Check.logOf(x, 2));
+        return x;
+    }
+
+    /** "a write for each block that gets bytes, in order, behind MARK the block becomes 0" */
+    private static void behindMarkTheBlockBecomesZero() {
+        LogBroker x = withOldBytes();
+        Check.due("an old byte of block 1", 2, () -> x.octet(1, 8));
+        Check.due("an old byte of block 2", 255, () -> x.octet(2, 5));
+        int writes = x.look(1);
+        Check.due("clean", 5, () -> x.clean(2, 0));
+        Check.due("two blocks, two OWNERs", writes + 4, () -> x.look(1));
+        Check.dueBytes("header", x, 0, 0, 0, 40, 3, 1, 0, 0, 0, 0);
+        Check.dueBytes("batches", x, 0, 8, 15, 1, 0, 255, 0, 2, 0, 0, 4, 0, 0, 1, 0, 6, 0, 0,
+                15, 3, 0, 255, 0, 2, 0, 0, 8, 0, 0, 1, 0, 10, 0, 0);
+        Check.dueBytes("behind MARK", x, 1, 8, new int[24]);
+        Check.dueBytes("block 2 gets none", x, 2, 0, 255, 15, 57, 4, 0, 255);
+        Check.due("block 3 gets none", 15, () -> x.octet(3, 27));
+    }
+
+    /** "a slot is taken": the free one with the least number, also by a cleaning. */
+    private static void theLeastFreeSlotIsTaken() {
+        LogBroker x = withOldBytes();
+        x.clean(2, 0);
+        Check.due("slot 0", 3, () -> x.octet(0, 2));
+        Check.due("slot 1", 0, () -> x.octet(4, 2));
+        Check.send(x, 1, 0, 0, 0);
+        Check.due("slot 1 is free for others", 2, () -> x.octet(4, 2));
+        Check.send(x, 2, 0, 2, 2);
+        Check.due("clean again", 1, () -> x.clean(2, 0));
+        Check.dueBytes("slots 2 and 3 are in use", x, 16, 0, 0, 35, 3, 2);
+        Check.due("slot 0 is free", 0, () -> x.octet(0, 2));
+    }
+
+    /** "its batches without those records (none without records)" */
+    private static void noBatchWithoutRecords() {
+        LogBroker x = new LogBroker();
+        Check.send(x, 2, 0, 1, 0);
+        Check.send(x, 2, 0, 2, 0);
+        Check.send(x, 2, 0, 3, 0);
+        Check.sendBig(x, 2);
+        Check.sendBig(x, 2);
+        Check.send(x, 2, 0, 2, 2);
+        Check.due("clean", 5, () -> x.clean(2, 0));
+        Check.dueBytes("two of four batches", x, 8, 0, 0, 30, 3, 1, 0, 0, 0, 0,
+                10, 0, 0, 255, 0, 1, 0, 0, 2, 0, 0, 10, 2, 0, 255, 0, 1, 0, 0, 6, 0, 0, 0, 0);
+        Check.due("fetch", 2, () -> x.fetch(2, 0, 2));
+        Check.due("looked at", 2, () -> x.look(4));
+    }
+
+    /** "the same BASE"; "NEXT, START, producers and what was committed stay." */
+    private static void baseNextAndStartStay() {
+        LogBroker x = new LogBroker();
+        Check.sendBig(x, 2);
+        Check.sendBig(x, 2);
+        Check.send(x, 2, 0, 1, 0, 0, 2, 0);
+        Check.sendBig(x, 2);
+        Check.sendBig(x, 2);
+        Check.send(x, 2, 0, 1, 0);
+        Check.same("log", "0 19 3 283 5 14", Check.logOf(x, 2));
+        Check.due("clean", 8 + 5, () -> x.clean(2, 0));
+        Check.same("log then", "0 19 2 96 3 14", Check.logOf(x, 2));
+        // the first segment's slot 0 is free by then
+        Check.dueBytes("BASE 8, the first record has 9", x, 0, 0, 0, 19, 3, 1, 0, 0, 0, 8, 10, 1);
+        Check.due("fetch from START", 6, () -> x.fetch(2, 0, 8));
+        Check.same("found", "9 14 15 16 17 18", Check.offsets(x));
+        x.recover();
+        Check.same("read again", "0 19 2 96 3 14", Check.logOf(x, 2));
+    }
+
+    /** "The index is made anew.": batches begin at 8, 29, 50 and 71, then at 8, 24, 40 and 56. */
+    private static void theIndexIsMadeAnew() {
+        LogBroker x = new LogBroker();
+        for (int i = 0; i < 4; i++) {
+            Check.send(x, 2, 0, 1, 0, 0, 10 + i, 0, 0, 20 + i, 0);
+        }
+        Check.due("entries at 8 and 50", 2, () -> x.log(2, 4));
+        Check.sendBig(x, 2);
+        Check.send(x, 2, 0, 1, 0);
+        Check.due("one more, at 8 of the next", 3 + 1, () -> x.log(2, 4));
+        Check.due("fetch of 7", 1, () -> x.fetch(2, 7, 1));
+        Check.due("from the entry at 50", 1, () -> x.look(4));
+        Check.due("clean", 4, () -> x.clean(2, 0));
+        Check.due("entries at 8 and 56, and those of the next", 4, () -> x.log(2, 4));
+        Check.due("fetch of 7 again", 1, () -> x.fetch(2, 7, 1));
+        Check.due("from the entry at 8", 3, () -> x.look(4));
+        Check.due("fetch of 10", 1, () -> x.fetch(2, 10, 1));
+        Check.due("from the entry at 56", 1, () -> x.look(4));
+        Check.due("fetch of 9, which is gone", 1, () -> x.fetch(2, 9, 1));
+        Check.due("from the entry at 8", 4, () -> x.look(4));
+        x.recover();
+        Check.due("read again", 4, () -> x.log(2, 4));
+    }
+
+    /**
+     * "the cleaning ends there, what was done stays": the first segment is made anew, the second one would have 140
+     * bytes, the third one could go.
+     */
+    private static void whatWasDoneStays() {
+        LogBroker x = new LogBroker();
+        Check.sendBig(x, 2);
+        Check.send(x, 2, 0, 50, 0, 0, 51, 0, 0, 52, 0, 0, 53, 0);
+        Check.send(x, 2, 0, 54, 0, 0, 55, 0, 0, 56, 0, 0, 57, 0);
+        Check.due("one segment", 1, () -> x.log(2, 2));
+        for (int i = 0; i < 4; i++) {
+            sendWide(x, 10 + 3 * i);
+        }
+        Check.due("two segments", 2, () -> x.log(2, 2));
+        Check.sendBig(x, 2);
+        Check.sendBig(x, 2);
+        Check.sendBig(x, 2);
+        Check.send(x, 2, 0, 1, 0);
+        Check.same("four segments", "0 41 4 447 8 36", Check.logOf(x, 2));
+        Check.due("clean", 4, () -> x.clean(2, 0));
+        Check.same("log", "0 41 4 389 7 36", Check.logOf(x, 2));
+        Check.dueBytes("the first was made anew", x, 16, 0, 0, 60, 3, 1, 0, 0, 0, 0);
+        Check.due("its old slot", 0, () -> x.octet(0, 2));
+        Check.dueBytes("the second is as it was", x, 4, 0, 0, 128, 3, 0);
+        Check.dueBytes("the third is as it was", x, 8, 0, 0, 124, 3, 0);
+        x.recover();
+        Check.same("read again", "0 41 4 389 7 36", Check.logOf(x, 2));
+    }
+
+    /** "If nothing is left, only that.": one write, and a cut before it. */
+    private static void cutWhereNothingIsLeft() {
+        for (int k = 0; k < 2; k++) {
+            LogBroker x = new LogBroker();
+            Check.sendBig(x, 2);
+            Check.sendBig(x, 2);
+            Check.sendBig(x, 2);
+            x.cut(k);
+            Check.due("clean, cut after " + k, k < 1 ? Check.ISE : "8", () -> x.clean(2, 0));
+            Check.due("OWNER", k < 1 ? 3 : 0, () -> x.octet(0, 2));
+            Check.due("recover", 0, () -> x.recover());
+            Check.same("log", k < 1 ? "0 12 2 190 3 8" : "0 12 1 66 1 8", Check.logOf(x, 2));
+        }
+    }
+
+    /** "what was committed stay[s]": a cleaning of log 3 lets go of old commits alone. */
+    private static void whatWasCommittedStays() {
+        LogBroker x = new LogBroker();
+        Check.send(x, 2, 0, 0, 0, 0, 0, 0, 0, 0, 0);
+        x.commit(0, 2, 1);
+        for (int i = 0; i < 11; i++) {
+            x.commit(1, 2, i % 4);
+        }
+        Check.due("clean", 9, () -> x.clean(3, 0));
+        Check.due("of group 0", 1, () -> x.committed(0, 2));
+        Check.due("of group 1", 2, () -> x.committed(1, 2));
+        Check.due("of group 2", -1, () -> x.committed(2, 2));
+        x.recover();
+        Check.due("of group 0, read again", 1, () -> x.committed(0, 2));
+        Check.due("of group 1, read again", 2, () -> x.committed(1, 2));
     }
 }
