@@ -29,9 +29,11 @@ public final class CleanTest {
         whatWasDoneStays();
         cutWhereNothingIsLeft();
         whatWasCommittedStays();
+        theLastRecordGoes();
         Check.finish("CleanTest");
     }
 
+    /** "CLEANS a COMPACT log ... IllegalArgumentException: it is none." */
     private static void wrongLogs() {
         LogBroker x = new LogBroker();
         for (int log : new int[] {-1, 0, 1, 4, MIN, MAX}) {
@@ -41,6 +43,7 @@ public final class CleanTest {
         Check.due("clean of the groups' log", 0, () -> x.clean(3, 0));
     }
 
+    /** "its segments but the ACTIVE one, from the first on" */
     private static void theActiveOneStays() {
         LogBroker x = new LogBroker();
         Check.send(x, 2, 0, 1, 1, 0, 1, 2, 0, 1, 3);
@@ -53,7 +56,10 @@ public final class CleanTest {
         Check.same("log", "0 11 2 85 2 7", Check.logOf(x, 2));
     }
 
-    /** Bytes that a cleaning leaves alone are those of blocks that get none. */
+    /**
+     * "HEADER with OWNER 0, GENERATION one greater ..., the same BASE and the MARK it has then"
+     * Bytes that a cleaning leaves alone are those of blocks that get none.
+     */
     private static void bytesOfACleanedSegment() {
         LogBroker x = new LogBroker();
         Check.sendBig(x, 0);
@@ -80,6 +86,7 @@ public final class CleanTest {
         Check.same("offsets", "1 2 8 9 10 11 12 13", Check.offsets(x));
     }
 
+    /** "or it is a DELETION and its time is less than the cleaning time - 100 (in longs)" */
     private static void ageOfDeletions() {
         int[][] due = {{0, 100, 0}, {0, 101, 1}, {-1, 99, 0}, {-1, 100, 1}, {MIN, MIN, 0}, {MIN, MIN + 100, 0},
             {MIN, MIN + 101, 1}, {MAX, MAX, 0}, {MAX, MIN, 0}, {MIN, MAX, 1}, {MAX - 100, MAX, 0}, {MAX - 101, MAX, 1}};
@@ -95,6 +102,7 @@ public final class CleanTest {
         }
     }
 
+    /** "a later one of the log has its key": a DELETION is one too, and may go with what it deletes. */
     private static void laterDeletions() {
         LogBroker x = new LogBroker();
         Check.send(x, 2, 500, 1, 1, 500, 2, 2, 500, 3, 3);
@@ -110,6 +118,7 @@ public final class CleanTest {
         Check.due("it is a deletion", 1, () -> x.fetched(1, 4));
     }
 
+    /** "If nothing is left, only that." */
     private static void nothingIsLeft() {
         LogBroker x = new LogBroker();
         for (int i = 0; i < 32; i++) {
@@ -126,6 +135,7 @@ public final class CleanTest {
         Check.same("read again", "0 128 1 124 2 120", Check.logOf(x, 2));
     }
 
+    /** "GENERATION one greater"; "In a batch that was cleaned the first one that is left is the first" */
     private static void generations() {
         LogBroker x = new LogBroker();
         Check.send(x, 2, 0, 1, 0, 0, 2, 0, 0, 3, 0, 0, 4, 0);
@@ -147,6 +157,7 @@ public final class CleanTest {
         Check.dueBytes("the first that is left is the first", x, 0, 8, 10, 4, 0, 255, 0, 1, 0, 0, 10, 0, 0);
     }
 
+    /** "NEXT, START, producers and what was committed stay."; "SEQUENCE and PRODUCER are as they were" */
     private static void producersStay() {
         LogBroker x = new LogBroker();
         x.add(0, 1, 1);
@@ -169,7 +180,10 @@ public final class CleanTest {
         Check.due("2 may begin anew", 13, () -> x.produce(2, 2, 0));
     }
 
-    /** Segment 0 can be dropped, 1 must move, 2 must move: the slot of 0 is room for 1 and so on. */
+    /**
+     * "(NO ROOM: the cleaning ends there, what was done stays)"
+     * Segment 0 can be dropped, 1 must move, 2 must move: the slot of 0 is room for 1 and so on.
+     */
     private static void endsWithoutRoom() {
         LogBroker x = new LogBroker();
         for (int i = 0; i < 26; i++) {
@@ -207,7 +221,10 @@ public final class CleanTest {
         Check.send(x, 2, 0, 1, 0, 1 << 30, key, 0, 0, key + 1, 0, 0, key + 2, 0);
     }
 
-    /** Each of these batches has 30 bytes, and 33 without its first record. */
+    /**
+     * "(At a segment that would have more than 128 bytes then the cleaning ends as without room.)"
+     * Each of these batches has 30 bytes, and 33 without its first record.
+     */
     private static void endsWithTooManyBytes() {
         LogBroker x = new LogBroker();
         for (int i = 0; i < 4; i++) {
@@ -224,6 +241,7 @@ public final class CleanTest {
         Check.same("log", "0 27 3 287 5 23", Check.logOf(x, 2));
     }
 
+    /** "a segment that would have more than 128 bytes": 128 are fine. */
     private static void justEnoughBytes() {
         LogBroker x = new LogBroker();
         for (int i = 0; i < 3; i++) {
@@ -244,6 +262,7 @@ public final class CleanTest {
         Check.due("time behind it", 0, () -> x.fetched(4, 1));
     }
 
+    /** "then a write makes OWNER what it must be; then a write makes the old slot's OWNER 0" */
     private static void cutAtEveryWrite() {
         for (int k = 0; k < 5; k++) {
             LogBroker x = new LogBroker();
@@ -310,7 +329,10 @@ public final class CleanTest {
         Check.due("both are there", 2, () -> x.fetch(2, 0, 8));
     }
 
-    /** A header without batches behind it is the ACTIVE one: all others are cleaned. */
+    /**
+     * "its segments but the ACTIVE one"
+     * A header without batches behind it is the ACTIVE one: all others are cleaned.
+     */
     private static void anEmptyActiveOne() {
         LogBroker x = new LogBroker();
         Check.sendBig(x, 2);
@@ -494,7 +516,7 @@ public final class CleanTest {
         }
     }
 
-    /** "what was committed stay[s]": a cleaning of log 3 lets go of old commits alone. */
+    /** "producers and what was committed stay": a cleaning of log 3 lets go of old commits alone. */
     private static void whatWasCommittedStays() {
         LogBroker x = new LogBroker();
         Check.send(x, 2, 0, 0, 0, 0, 0, 0, 0, 0, 0);
@@ -509,5 +531,21 @@ public final class CleanTest {
         x.recover();
         Check.due("of group 0, read again", 1, () -> x.committed(0, 2));
         Check.due("of group 1, read again", 2, () -> x.committed(1, 2));
+    }
+
+    /** "If nothing is left, only that.": also where one record was left by an earlier cleaning. */
+    private static void theLastRecordGoes() {
+        LogBroker x = new LogBroker();
+        Check.send(x, 2, 0, 1, 0);
+        Check.sendBig(x, 2);
+        Check.sendBig(x, 2);
+        Check.due("clean", 4, () -> x.clean(2, 0));
+        Check.same("one record is left", "0 9 2 85 2 5", Check.logOf(x, 2));
+        Check.send(x, 2, 0, 1, 1);
+        int writes = x.look(1);
+        Check.due("clean again", 1, () -> x.clean(2, 0));
+        Check.due("one write", writes + 1, () -> x.look(1));
+        Check.same("one segment", "0 10 1 77 2 5", Check.logOf(x, 2));
+        Check.due("free slots", 15, () -> x.look(2));
     }
 }

@@ -12,9 +12,12 @@ public final class CommitTest {
         noRoom();
         theBatchBeingMadeStays();
         cutOfACommit();
+        behindAProducer();
+        keysOfOtherLogs();
         Check.finish("CommitTest");
     }
 
+    /** "a batch of one record, without producer, is appended to log 3: time 0, key 4 * group + log, value the offset" */
     private static void bytesOfACommit() {
         LogBroker x = new LogBroker();
         Check.send(x, 1, 0, 0, 0, 0, 0, 0);
@@ -28,6 +31,7 @@ public final class CommitTest {
         Check.due("value", 2, () -> x.fetched(0, 3));
     }
 
+    /** "What a group COMMITTED for a log is the value of the latest record with that key, as known." */
     private static void theLatestCounts() {
         LogBroker x = new LogBroker();
         Check.send(x, 0, 0, 0, 0, 0, 0, 0, 0, 0, 0, 0, 0, 0);
@@ -48,6 +52,7 @@ public final class CommitTest {
         Check.due("behind a cleaning, read again", 4, () -> x.committed(7, 0));
     }
 
+    /** "GROUPS 0 .. 7 COMMIT an offset for a log" */
     private static void eachGroupAndLog() {
         LogBroker x = new LogBroker();
         for (int i = 0; i < 24; i++) {
@@ -70,6 +75,7 @@ public final class CommitTest {
         }
     }
 
+    /** "no such group or log; else IndexOutOfBoundsException"; "-1 if it did not, or there is none such." */
     private static void wrongArguments() {
         LogBroker x = new LogBroker();
         Check.send(x, 2, 0, 0, 0);
@@ -90,6 +96,7 @@ public final class CommitTest {
         Check.dueOf("1 of an empty log is none", Check.IOOBE, () -> x.commit(2, 0, 1));
     }
 
+    /** "offset is not START .. NEXT of that log" */
     private static void startCounts() {
         LogBroker x = new LogBroker();
         Check.sendBig(x, 0);
@@ -103,6 +110,7 @@ public final class CommitTest {
         Check.due("committed", 8, () -> x.committed(1, 0));
     }
 
+    /** "else UnsupportedOperationException: NO ROOM." */
     private static void noRoom() {
         LogBroker x = new LogBroker();
         for (int i = 0; i < 32; i++) {
@@ -121,6 +129,7 @@ public final class CommitTest {
         Check.due("least free slot was taken", 4, () -> x.octet(0, 2));
     }
 
+    /** "a batch of one record": it is not the batch that is being made. */
     private static void theBatchBeingMadeStays() {
         LogBroker x = new LogBroker();
         x.add(1, 2, 3);
@@ -136,6 +145,7 @@ public final class CommitTest {
         Check.due("last value", 9, () -> x.fetched(2, 3));
     }
 
+    /** "IllegalStateException: no power." */
     private static void cutOfACommit() {
         for (int k = 0; k < 3; k++) {
             LogBroker x = new LogBroker();
@@ -149,6 +159,34 @@ public final class CommitTest {
             x.recover();
             Check.due("committed", -1, () -> x.committed(0, 0));
             Check.same("log of the groups", k == 0 ? "0 0 0 0 0 -1" : "0 0 1 8 0 0", Check.logOf(x, 3));
+        }
+    }
+
+    /** "a batch of one record, without producer": whoever sent the batch before. */
+    private static void behindAProducer() {
+        LogBroker x = new LogBroker();
+        x.add(9, 9, 9);
+        x.produce(0, 7, 300);
+        x.commit(0, 0, 1);
+        Check.dueBytes("slot 1", x, 4, 0, 0, 19, 4, 0, 0, 0, 0, 0, 10, 0, 0, 255, 0, 1, 0, 0, 0, 0, 2);
+        Check.same("no producer is known", "-1 -1 -1", Check.knownOf(x, 3, 7));
+        x.recover();
+        Check.same("nor read again", "-1 -1 -1", Check.knownOf(x, 3, 7));
+    }
+
+    /** "what was committed (the latest records of log 3)": records of other logs may have the same keys. */
+    private static void keysOfOtherLogs() {
+        LogBroker x = new LogBroker();
+        for (int log = 0; log < 3; log++) {
+            Check.send(x, log, 0, 0, 50, 0, 1, 51, 0, 2, 52, 0, 4, 53);
+        }
+        x.commit(1, 0, 2);
+        for (int round = 0; round < 2; round++) {
+            Check.due("of group 0 for log 0", -1, () -> x.committed(0, 0));
+            Check.due("of group 0 for log 1", -1, () -> x.committed(0, 1));
+            Check.due("of group 0 for log 2", -1, () -> x.committed(0, 2));
+            Check.due("of group 1 for log 0", 2, () -> x.committed(1, 0));
+            x.recover();
         }
     }
 }

@@ -14,9 +14,16 @@ public final class FetchTest {
         aRefusedFetchChangesNothing();
         sinceATime();
         sinceOfALog();
+        offsetsFromStartToNext();
+        oneToEight();
+        theWrongArgumentsComeFirst();
+        whatWasFetchedIsACopy();
+        sinceAtTheEdges();
+        sinceThroughSegments();
         Check.finish("FetchTest");
     }
 
+    /** "offset is not START .. NEXT": of an empty log 0 alone; "-1 without" */
     private static void emptyLog() {
         LogBroker x = new LogBroker();
         for (int log = 0; log < 4; log++) {
@@ -30,6 +37,7 @@ public final class FetchTest {
         Check.due("nothing fetched", Check.IOOBE, () -> x.fetched(0, 0));
     }
 
+    /** "no such log, or n is not so"; "IllegalArgumentException: no such log." */
     private static void wrongArguments() {
         LogBroker x = new LogBroker();
         Check.send(x, 0, 0, 0, 0);
@@ -48,7 +56,10 @@ public final class FetchTest {
         }
     }
 
-    /** Batches of 10 bytes begin at 8, 18, 28, 38, 48, ...: entries at 8, 48, 88, not at 38. */
+    /**
+     * "at the batch of its latest ENTRY whose first record's offset is not greater"
+     * Batches of 10 bytes begin at 8, 18, 28, 38, 48, ...: entries at 8, 48, 88, not at 38.
+     */
     private static void indexWithGapOfForty() {
         LogBroker x = new LogBroker();
         int[] entries = {1, 1, 1, 1, 2, 2, 2, 2, 3, 3, 3, 3};
@@ -80,6 +91,7 @@ public final class FetchTest {
         Check.due("one 50 behind", 2, () -> y.log(2, 4));
     }
 
+    /** "LOOKS AT batch by batch ... up to that in which the n-th record is found, or the end" */
     private static void lookingGoesOnToTheEnd() {
         LogBroker x = new LogBroker();
         Check.send(x, 0, 1, 1, 1, 2, 2, 2, 3, 3, 3);
@@ -99,6 +111,7 @@ public final class FetchTest {
         }
     }
 
+    /** "It begins in the last segment whose BASE is not greater than offset ... through the segments" */
     private static void throughSegments() {
         LogBroker x = new LogBroker();
         for (int i = 0; i < 6; i++) {
@@ -113,7 +126,10 @@ public final class FetchTest {
         }
     }
 
-    /** Behind a cleaning the first segment has a BASE above START, and an entry may lie above the offset. */
+    /**
+     * "(the first one, if there is none such)"; "(its first batch, if there is none such)"
+     * Behind a cleaning the first segment has a BASE above START, and an entry may lie above the offset.
+     */
     private static void cleanedLogs() {
         LogBroker x = new LogBroker();
         Check.sendBig(x, 2);
@@ -143,6 +159,7 @@ public final class FetchTest {
         Check.same("found", "1", Check.offsets(y));
     }
 
+    /** "its offset (what = 0), time (1), key (2), value, 0 for a DELETION (3), 1 for a DELETION, else 0 (4)" */
     private static void fieldsOfARecord() {
         LogBroker x = new LogBroker();
         x.add(-7, MIN, MAX);
@@ -163,6 +180,7 @@ public final class FetchTest {
         }
     }
 
+    /** "What throws or is refused changes nothing": the latest fetch() is the latest that did not throw. */
     private static void aRefusedFetchChangesNothing() {
         LogBroker x = new LogBroker();
         Check.send(x, 0, 1, 2, 3, 4, 5, 6);
@@ -179,6 +197,7 @@ public final class FetchTest {
         Check.due("looked at is new", 0, () -> x.look(4));
     }
 
+    /** "The least offset of a record of a log whose time is not less than a time" */
     private static void sinceATime() {
         LogBroker x = new LogBroker();
         Check.send(x, 1, 5, 0, 0, 9, 0, 0);
@@ -198,6 +217,7 @@ public final class FetchTest {
         Check.due("none", -1, () -> y.since(0, 5));
     }
 
+    /** "a record of a log": of that one alone. */
     private static void sinceOfALog() {
         LogBroker x = new LogBroker();
         Check.send(x, 0, 10, 0, 0);
@@ -206,5 +226,101 @@ public final class FetchTest {
         Check.due("of 1", -1, () -> x.since(1, 10));
         Check.due("of the groups", 0, () -> x.since(3, 0));
         Check.due("of the groups later", -1, () -> x.since(3, 1));
+    }
+
+    /** "IndexOutOfBoundsException: offset is not START .. NEXT." */
+    private static void offsetsFromStartToNext() {
+        LogBroker x = new LogBroker();
+        for (int i = 0; i < 5; i++) {
+            Check.sendBig(x, 1);
+        }
+        Check.due("retain", 2, () -> x.retain(1, 5000));
+        Check.same("log", "16 20 1 66 1 16", Check.logOf(x, 1));
+        Check.due("START - 1", Check.IOOBE, () -> x.fetch(1, 15, 1));
+        Check.due("START", 4, () -> x.fetch(1, 16, 8));
+        Check.due("the last record", 1, () -> x.fetch(1, 19, 8));
+        Check.due("NEXT", 0, () -> x.fetch(1, 20, 8));
+        Check.due("looked at", 1, () -> x.look(4));
+        Check.due("NEXT + 1", Check.IOOBE, () -> x.fetch(1, 21, 8));
+        Check.due("0", Check.IOOBE, () -> x.fetch(1, 0, 8));
+    }
+
+    /** "up to n (1 .. 8)" */
+    private static void oneToEight() {
+        LogBroker x = new LogBroker();
+        Check.sendBig(x, 0);
+        Check.sendBig(x, 0);
+        Check.sendBig(x, 0);
+        for (int n = 1; n <= 8; n++) {
+            int count = n;
+            Check.due("fetch of " + n, n, () -> x.fetch(0, 1, count));
+            Check.due("fetched", n, () -> x.look(5));
+            Check.due("the last of them", n, () -> x.fetched(count - 1, 0));
+            Check.due("none behind it", Check.IOOBE, () -> x.fetched(count, 0));
+        }
+        Check.due("fetch of 0", Check.IAE, () -> x.fetch(0, 1, 0));
+        Check.due("fetch of 9", Check.IAE, () -> x.fetch(0, 1, 9));
+    }
+
+    /** "IllegalArgumentException: no such log, or n is not so; else IndexOutOfBoundsException" */
+    private static void theWrongArgumentsComeFirst() {
+        LogBroker x = new LogBroker();
+        Check.due("log and offset", Check.IAE, () -> x.fetch(4, -1, 1));
+        Check.due("n and offset", Check.IAE, () -> x.fetch(0, -1, 0));
+        Check.due("n above and offset", Check.IAE, () -> x.fetch(0, 1, 9));
+        Check.due("offset alone", Check.IOOBE, () -> x.fetch(0, 1, 8));
+        Check.due("log 3 is one", 0, () -> x.fetch(3, 0, 8));
+    }
+
+    /** "Of the k-th record of the latest fetch()": also when its segment is there no more. */
+    private static void whatWasFetchedIsACopy() {
+        LogBroker x = new LogBroker();
+        Check.send(x, 0, 1, 2, 3);
+        Check.sendBig(x, 0);
+        Check.sendBig(x, 0);
+        x.fetch(0, 0, 1);
+        x.retain(0, 5000);
+        Check.send(x, 1, 7, 8, 9);
+        Check.due("its slot has another log", 2, () -> x.octet(0, 2));
+        Check.due("time", 1, () -> x.fetched(0, 1));
+        Check.due("key", 2, () -> x.fetched(0, 2));
+        Check.due("value", 3, () -> x.fetched(0, 3));
+    }
+
+    /** "whose time is not less than a time; -1 without." */
+    private static void sinceAtTheEdges() {
+        LogBroker x = new LogBroker();
+        Check.send(x, 0, MIN, 0, 0, -1, 0, 0, 0, 0, 0, MAX, 0, 0);
+        int[][] due = {{MIN, 0}, {MIN + 1, 1}, {-1, 1}, {0, 2}, {1, 3}, {MAX, 3}};
+        for (int[] d : due) {
+            Check.due("since " + d[0], d[1], () -> x.since(0, d[0]));
+        }
+        LogBroker y = new LogBroker();
+        Check.send(y, 0, MAX - 1, 0, 0);
+        Check.due("equal", 0, () -> y.since(0, MAX - 1));
+        Check.due("one less", -1, () -> y.since(0, MAX));
+        Check.due("log 3 is one", -1, () -> y.since(3, MIN));
+        LogBroker z = new LogBroker();
+        Check.send(z, 0, 9, 0, 0);
+        Check.sendBig(z, 0);
+        Check.sendBig(z, 0);
+        Check.due("before", 0, () -> z.since(0, 0));
+        z.retain(0, 5000);
+        Check.due("what was let go does not count", 5, () -> z.since(0, 0));
+        Check.due("nor its time", -1, () -> z.since(0, 9));
+    }
+
+    /** "The least offset of a record of a log": in whichever segment it is. */
+    private static void sinceThroughSegments() {
+        LogBroker x = new LogBroker();
+        for (int i = 0; i < 5; i++) {
+            Check.sendBig(x, 0);
+        }
+        Check.send(x, 0, 3, 0, 0, 8, 0, 0, 5, 0, 0);
+        Check.same("three segments", "0 23 3 335 6 16", Check.logOf(x, 0));
+        int[][] due = {{0, 0}, {1, 20}, {3, 20}, {4, 21}, {8, 21}, {9, -1}};
+        for (int[] d : due) {
+            Check.due("since " + d[0], d[1], () -> x.since(0, d[0]));
+        }
     }
 }

@@ -11,9 +11,13 @@ public final class LookTest {
         knownProducers();
         octets();
         looks();
+        theCornersOfTheDisk();
+        theDiskWithoutPower();
+        theLastCallsOfAnObject();
         Check.finish("LookTest");
     }
 
+    /** "An empty disk, empty logs, the power on." */
     private static void aNewObject() {
         LogBroker x = new LogBroker();
         for (int log = 0; log < 4; log++) {
@@ -41,6 +45,7 @@ public final class LookTest {
         Check.due("bytes", 0, () -> bytes);
     }
 
+    /** "A new object": another one does not know of it. */
     private static void objectsAreApart() {
         LogBroker x = new LogBroker();
         LogBroker y = new LogBroker();
@@ -50,6 +55,7 @@ public final class LookTest {
         Check.due("the other's byte", 0, () -> y.octet(0, 1));
     }
 
+    /** "-1 for another log or what"; "or there is none such"; "-1 if there is none"; "-1 for another what" */
     private static void wrongQuestions() {
         LogBroker x = new LogBroker();
         x.add(1, 1, 1);
@@ -75,6 +81,7 @@ public final class LookTest {
         Check.due("look, what 6", -1, () -> x.look(6));
     }
 
+    /** "START (what = 0), NEXT (1), how many segments it has (2), the MARKS of these together (3), the entries ... (4)" */
     private static void logs() {
         LogBroker x = new LogBroker();
         Check.send(x, 0, 0, 0, 0);
@@ -90,6 +97,7 @@ public final class LookTest {
         Check.same("log 0 then", "5 9 1 66 1 5", Check.logOf(x, 0));
     }
 
+    /** "the SEQUENCE (what = 0), how many records (1), the offset (2) of the latest batch; -1 if none is known" */
     private static void knownProducers() {
         LogBroker x = new LogBroker();
         Check.send(x, 2, 0, 0, 0);
@@ -105,6 +113,7 @@ public final class LookTest {
         Check.same("of 7 in 2", "0 1 4", Check.knownOf(x, 2, 7));
     }
 
+    /** "Byte k of a block" */
     private static void octets() {
         LogBroker x = new LogBroker();
         for (int i = 0; i < 32; i++) {
@@ -119,6 +128,7 @@ public final class LookTest {
         Check.due("also behind a recovery", 2, () -> x.octet(60, 2));
     }
 
+    /** "1 if the power is on, else 0 (what = 0); the writes ever (1); the free slots (2); the records of the batch ..." */
     private static void looks() {
         LogBroker x = new LogBroker();
         x.add(1, 1, 1);
@@ -140,5 +150,52 @@ public final class LookTest {
             int w = what;
             Check.due("look " + what + " without power", looks[what], () -> x.look(w));
         }
+    }
+
+    /** "Byte k of a block ...; -1 if there is none." */
+    private static void theCornersOfTheDisk() {
+        LogBroker x = new LogBroker();
+        int[][] due = {{0, 0, 0}, {0, 31, 0}, {63, 0, 0}, {63, 31, 0}, {-1, 0, -1}, {64, 0, -1}, {0, -1, -1}, {0, 32, -1},
+            {63, 32, -1}, {63, -1, -1}, {-1, 31, -1}, {64, 31, -1}, {-1, -1, -1}, {64, 32, -1}, {1, MIN, -1}, {1, MAX, -1},
+            {MIN, 1, -1}, {MAX, 1, -1}, {1, -32, -1}, {-1, 32, -1}};
+        for (int[] d : due) {
+            Check.due("octet(" + d[0] + ", " + d[1] + ")", d[2], () -> x.octet(d[0], d[1]));
+        }
+    }
+
+    /** "also without power" */
+    private static void theDiskWithoutPower() {
+        LogBroker x = new LogBroker();
+        for (int i = 0; i < 32; i++) {
+            Check.sendBig(x, 0);
+        }
+        x.cut(0);
+        Check.due("cut", Check.ISE, () -> x.retain(0, 0));
+        Check.dueBytes("slot 0", x, 0, 0, 0, 124, 1, 0, 0, 0, 0, 0, 57, 0, 0, 255);
+        Check.dueBytes("slot 15", x, 60, 0, 0, 124, 1, 0, 0, 0, 0, 120, 57, 0, 0, 255);
+        Check.due("the last block", 15, () -> x.octet(63, 27));
+        Check.due("no block", -1, () -> x.octet(64, 0));
+        Check.due("no byte", -1, () -> x.octet(63, 32));
+        Check.due("the power", 0, () -> x.look(0));
+        Check.due("the free slots", 0, () -> x.look(2));
+    }
+
+    /** "An object is used for at most 512 calls after it has been made": the 512th is answered as the first. */
+    private static void theLastCallsOfAnObject() {
+        LogBroker x = new LogBroker();
+        for (int round = 1; round <= 5; round++) {
+            for (int i = 0; i < 50; i++) {
+                x.add(0, 0, 0);
+                x.produce(0, -1, 0);
+            }
+            Check.due("retain", true, () -> x.retain(0, MAX) > 3);
+        }
+        Check.due("call 506", true, () -> x.add(7, 8, 9));
+        Check.due("call 507", 250, () -> x.produce(0, -1, 0));
+        Check.due("call 508", 1, () -> x.fetch(0, 250, 8));
+        Check.due("call 509", 7, () -> x.fetched(0, 1));
+        Check.due("call 510", 8, () -> x.fetched(0, 2));
+        Check.due("call 511", 9, () -> x.fetched(0, 3));
+        Check.due("call 512", 251, () -> x.log(0, 1));
     }
 }

@@ -172,7 +172,10 @@ public final class NumberTest {
         Check.same("found", "255 256 257 258 259 260 261 262", Check.offsets(x));
     }
 
-    /** A batch with all numbers of five bytes has 78 bytes, and is fine. */
+    /**
+     * "A BATCH of 1 to 4 records"
+     * A batch with all numbers of five bytes has 78 bytes, and is fine.
+     */
     private static void theGreatestBatch() {
         LogBroker x = new LogBroker();
         x.add(MIN, MIN, MAX);

@@ -256,6 +256,7 @@ public final class RefusedTest {
         }
     }
 
+    /** "-1 without. ... IllegalArgumentException: no such log." */
     private static void since() {
         for (int log : new int[] {-1, 4, MIN, MAX}) {
             unchanged("since(" + log + ", 0)", Check.IAE, () -> richWith(2), x -> x.since(log, 0));

@@ -12,6 +12,9 @@ public final class RetainTest {
         size();
         producersStay();
         cutAtEveryWrite();
+        onlyTheActiveOneIsLeft();
+        anEmptyActiveOne();
+        theOtherLogsStay();
         Check.finish("RetainTest");
     }
 
@@ -20,6 +23,7 @@ public final class RetainTest {
         Check.send(x, log, a, KEY, 0, b, KEY, 0, c, KEY, 0, d, KEY, 0);
     }
 
+    /** "RETAINS a KEEPING log ... IllegalArgumentException: it is none."; "as long as it has more than one segment" */
     private static void wrongLogs() {
         LogBroker x = new LogBroker();
         for (int log : new int[] {-1, 2, 3, 4, MIN, MAX}) {
@@ -30,6 +34,7 @@ public final class RetainTest {
         Check.due("the only segment stays", 0, () -> x.retain(1, MAX));
     }
 
+    /** "if the greatest time of its records is less than the time - 1000 (in longs)" */
     private static void age() {
         int[][] due = {{0, 1000, 0}, {0, 1001, 1}, {-5, 995, 0}, {-5, 996, 1}, {MIN, MIN, 0}, {MIN, MIN + 1000, 0},
             {MIN, MIN + 1001, 1}, {MAX, MIN, 0}, {MAX, MAX, 0}, {MAX - 1000, MAX, 0}, {MAX - 1001, MAX, 1}};
@@ -45,6 +50,7 @@ public final class RetainTest {
         }
     }
 
+    /** "the greatest time of its records": wherever it stands. */
     private static void greatestTimeOfAll() {
         for (int at = 0; at < 8; at++) {
             LogBroker x = new LogBroker();
@@ -61,6 +67,7 @@ public final class RetainTest {
         }
     }
 
+    /** "the first one is let go": no other one before it. */
     private static void theFirstThatStaysEndsIt() {
         LogBroker x = new LogBroker();
         sendTimes(x, 0, 500, 500, 500, 500);
@@ -78,7 +85,10 @@ public final class RetainTest {
         Check.due("writes then", writes + 2, () -> x.look(1));
     }
 
-    /** The second segment has 124 bytes, the third one 8 + 58 + 49 or, with a value, 50. */
+    /**
+     * "or all other segments have together MARKS of 240 or more"
+     * The second segment has 124 bytes, the third one 8 + 58 + 49 or, with a value, 50.
+     */
     private static void size() {
         for (int extra = 0; extra < 2; extra++) {
             LogBroker x = new LogBroker();
@@ -104,6 +114,7 @@ public final class RetainTest {
         Check.due("free slots", 14, () -> y.look(2));
     }
 
+    /** "a write makes its OWNER 0; START becomes the BASE of the segment that is first then": and nothing else. */
     private static void producersStay() {
         LogBroker x = new LogBroker();
         x.add(0, 0, 0);
@@ -121,6 +132,7 @@ public final class RetainTest {
         Check.same("log", "5 9 1 66 1 5", Check.logOf(x, 0));
     }
 
+    /** "a write makes its OWNER 0": one for each segment, from the first on. */
     private static void cutAtEveryWrite() {
         for (int k = 0; k < 3; k++) {
             LogBroker x = new LogBroker();
@@ -136,5 +148,59 @@ public final class RetainTest {
             Check.due("NEXT", 24, () -> x.log(0, 1));
             Check.due("segments", 3 - k, () -> x.log(0, 2));
         }
+    }
+
+    /** "as long as it has more than one segment" */
+    private static void onlyTheActiveOneIsLeft() {
+        LogBroker x = new LogBroker();
+        for (int i = 0; i < 32; i++) {
+            Check.sendBig(x, 0);
+        }
+        Check.due("no free slot", 0, () -> x.look(2));
+        int writes = x.look(1);
+        Check.due("all but the ACTIVE one", 15, () -> x.retain(0, MAX));
+        Check.due("a write for each", writes + 15, () -> x.look(1));
+        Check.same("log", "120 128 1 124 2 120", Check.logOf(x, 0));
+        Check.due("again", 0, () -> x.retain(0, MAX));
+        Check.due("no write", writes + 15, () -> x.look(1));
+        x.recover();
+        Check.same("read again", "120 128 1 124 2 120", Check.logOf(x, 0));
+    }
+
+    /**
+     * "as long as it has more than one segment"
+     * A header without batches behind it is a segment too: it has a MARK of 8, and is the ACTIVE one.
+     */
+    private static void anEmptyActiveOne() {
+        LogBroker x = new LogBroker();
+        Check.sendBig(x, 1);
+        Check.sendBig(x, 1);
+        x.cut(1);
+        Check.due("cut behind the header", Check.ISE, () -> Check.sendBig(x, 1));
+        x.recover();
+        Check.same("log", "0 8 2 132 2 8", Check.logOf(x, 1));
+        Check.due("not yet", 0, () -> x.retain(1, 1000));
+        Check.due("then", 1, () -> x.retain(1, 1001));
+        Check.same("log then", "8 8 1 8 0 8", Check.logOf(x, 1));
+        Check.due("the empty one stays", 0, () -> x.retain(1, MAX));
+        Check.due("fetch from START, which is NEXT", 0, () -> x.fetch(1, 8, 8));
+        Check.due("fetch below", Check.IOOBE, () -> x.fetch(1, 7, 8));
+        Check.due("the next batch", 8, () -> Check.sendBig(x, 1));
+    }
+
+    /** "RETAINING a KEEPING log": that one alone. */
+    private static void theOtherLogsStay() {
+        LogBroker x = new LogBroker();
+        for (int i = 0; i < 3; i++) {
+            Check.sendBig(x, 0);
+            Check.sendBig(x, 1);
+            Check.sendBig(x, 2);
+        }
+        Check.due("retain of 1", 1, () -> x.retain(1, MAX));
+        Check.same("log 0", "0 12 2 190 3 8", Check.logOf(x, 0));
+        Check.same("log 1", "8 12 1 66 1 8", Check.logOf(x, 1));
+        Check.same("log 2", "0 12 2 190 3 8", Check.logOf(x, 2));
+        Check.due("retain of 0", 1, () -> x.retain(0, MAX));
+        Check.same("log 0 then", "8 12 1 66 1 8", Check.logOf(x, 0));
     }
 }

@@ -15,6 +15,7 @@ public final class TwinTest {
         sameBaseInAnotherLog();
         theRecoveryIsNotCut();
         ownersThatAreNoLog();
+        baseOfFourBytes();
         Check.finish("TwinTest");
     }
 
@@ -112,6 +113,7 @@ public final class TwinTest {
         dueNewer("behind", toBeCleaned(), 0, 2);
     }
 
+    /** "that one counts whose GENERATION is one greater": also where its slot comes first. */
     private static void theNewerTwinIsInALowerSlot() {
         dueNewer("before", withALowerSlotFree(), 1, 0);
     }
@@ -125,6 +127,7 @@ public final class TwinTest {
         Check.due("GENERATION", 0, () -> x.octet(8, 3));
     }
 
+    /** "(0 is one greater than 255)": also where its slot comes first. */
     private static void zeroInALowerSlot() throws ReflectiveOperationException {
         LogBroker x = withALowerSlotFree();
         poke(x, 4, 3, 255);
@@ -167,5 +170,24 @@ public final class TwinTest {
             }
             Check.due("not free", 15, () -> x.look(2));
         }
+    }
+
+    /** "BASE (4 bytes)", the higher first: no run of calls gets so far, so it is written onto the disk here. */
+    private static void baseOfFourBytes() throws ReflectiveOperationException {
+        LogBroker x = new LogBroker();
+        Check.send(x, 0, 1, 2, 3, 4, 5, 6);
+        int[] base = {1, 2, 3, 4};
+        for (int i = 0; i < 4; i++) {
+            poke(x, 0, 4 + i, base[i]);
+        }
+        Check.due("recover", 0, () -> x.recover());
+        Check.same("log", "16909060 16909062 1 24 1 16909060", Check.logOf(x, 0));
+        Check.due("fetch", 1, () -> x.fetch(0, 16909061, 8));
+        Check.due("offset", 16909061, () -> x.fetched(0, 0));
+        Check.due("below START", Check.IOOBE, () -> x.fetch(0, 0, 8));
+        for (int i = 0; i < 5; i++) {
+            Check.sendBig(x, 0);
+        }
+        Check.dueBytes("BASE of the next", x, 4, 0, 0, 124, 1, 0, 1, 2, 3, 10);
     }
 }
