@@ -30,6 +30,7 @@ public final class CleanTest {
         cutWhereNothingIsLeft();
         whatWasCommittedStays();
         theLastRecordGoes();
+        aBatchBehindTheEnd();
         Check.finish("CleanTest");
     }
 
@@ -547,5 +548,30 @@ public final class CleanTest {
         Check.due("one write", writes + 1, () -> x.look(1));
         Check.same("one segment", "0 10 1 77 2 5", Check.logOf(x, 2));
         Check.due("free slots", 15, () -> x.look(2));
+    }
+
+    /**
+     * "a segment that would have more than 128 bytes": four batches of 26 bytes would have 30 each, so that a fifth one
+     * would begin where the slot ends.
+     */
+    private static void aBatchBehindTheEnd() {
+        LogBroker x = new LogBroker();
+        for (int i = 0; i < 4; i++) {
+            x.erase(0, 1);
+            x.erase(1 << 30, 10 + 3 * i);
+            x.erase(0, 11 + 3 * i);
+            x.erase(0, 12 + 3 * i);
+            x.produce(2, -1, 0);
+        }
+        x.erase(0, 50);
+        x.produce(2, -1, 0);
+        Check.same("122 bytes", "0 17 1 122 3 0", Check.logOf(x, 2));
+        Check.send(x, 2, 0, 1, 0);
+        int writes = x.look(1);
+        Check.due("clean to 138 bytes", 0, () -> x.clean(2, 0));
+        Check.due("writes", writes, () -> x.look(1));
+        Check.same("log", "0 18 2 141 4 17", Check.logOf(x, 2));
+        Check.due("clean where old deletions go too", 13, () -> x.clean(2, 101));
+        Check.same("the young ones are left", "0 18 2 83 3 17", Check.logOf(x, 2));
     }
 }

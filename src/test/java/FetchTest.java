@@ -20,6 +20,7 @@ public final class FetchTest {
         whatWasFetchedIsACopy();
         sinceAtTheEdges();
         sinceThroughSegments();
+        noEntryBehindAnotherFetch();
         Check.finish("FetchTest");
     }
 
@@ -322,5 +323,25 @@ public final class FetchTest {
         for (int[] d : due) {
             Check.due("since " + d[0], d[1], () -> x.since(0, d[0]));
         }
+    }
+
+    /** "(its first batch, if there is none such)": wherever the fetch before began. */
+    private static void noEntryBehindAnotherFetch() {
+        LogBroker x = new LogBroker();
+        Check.sendBig(x, 0);
+        Check.sendBig(x, 0);
+        for (int i = 0; i < 3; i++) {
+            int k = i == 2 ? 5 : 1;
+            Check.send(x, 2, 0, k, 0, 0, k + 1, 0, 0, k + 2, 0, 0, k + 3, 0);
+        }
+        Check.send(x, 2, 0, 1, 0, 0, 2, 0, 0, 3, 0, 0, 4, 0);
+        Check.sendBig(x, 2);
+        Check.same("two segments", "0 20 2 178 3 16", Check.logOf(x, 2));
+        Check.due("clean of the first eight", 8, () -> x.clean(2, 0));
+        Check.due("fetch of log 0", 4, () -> x.fetch(0, 4, 8));
+        Check.due("at its second entry", 1, () -> x.look(4));
+        Check.due("fetch of log 2", 8, () -> x.fetch(2, 6, 8));
+        Check.same("found", "8 9 10 11 12 13 14 15", Check.offsets(x));
+        Check.due("looked at", 2, () -> x.look(4));
     }
 }

@@ -15,6 +15,7 @@ public final class RetainTest {
         onlyTheActiveOneIsLeft();
         anEmptyActiveOne();
         theOtherLogsStay();
+        timesOfOtherLogs();
         Check.finish("RetainTest");
     }
 
@@ -202,5 +203,18 @@ public final class RetainTest {
         Check.same("log 2", "0 12 2 190 3 8", Check.logOf(x, 2));
         Check.due("retain of 0", 1, () -> x.retain(0, MAX));
         Check.same("log 0 then", "8 12 1 66 1 8", Check.logOf(x, 0));
+    }
+
+    /** "the greatest time of its records": not of what was read of another log before. */
+    private static void timesOfOtherLogs() {
+        LogBroker x = new LogBroker();
+        for (int i = 0; i < 3; i++) {
+            Check.sendBig(x, 0);
+        }
+        Check.send(x, 1, MAX, 0, 0);
+        Check.due("fetch of a late one", 1, () -> x.fetch(1, 0, 8));
+        Check.due("not yet", 0, () -> x.retain(0, 1000));
+        Check.due("fetch of it again", 1, () -> x.fetch(1, 0, 8));
+        Check.due("then", 1, () -> x.retain(0, 1001));
     }
 }
